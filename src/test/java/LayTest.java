@@ -83,7 +83,7 @@ public final class LayTest {
         laid(64 * 64 + 2, 64, 16, 128, 0, FieldRows.BAD);
         laid(64 * 64 + 6, 64, 16, 128, 0, FieldRows.BAD);
         laid(64 * 64 + 64, 64, 16, 128, 0, FieldRows.BAD);
-        // 33 groups have two blocks of descriptors: the last one, 49, then needs 1 + 2 + 2 + 2.
+        // From 33 groups on the descriptors take two blocks: group 49 then has 1 + 2 + 2 + 2 fixed ones.
         laid(49 * 64 + 1 + 7, 64, 16, 128, 0, FieldRows.BAD);
         laid(49 * 64 + 1 + 8, 64, 16, 128, 0, 50);
         laid(1 << 24, 1 << 15, 1 << 15, 1024, 2, FieldRows.BAD);
