@@ -12,6 +12,11 @@ final class Due {
         void on(FieldRows x);
     }
 
+    /** One call, and its answer. */
+    interface Call {
+        long on(FieldRows x);
+    }
+
     static void is(String call, long got, long want) {
         if (got != want) {
             wrong++;
@@ -50,6 +55,28 @@ final class Due {
             before.on(x);
             calls.on(x);
         }), bytesBehind(before));
+    }
+
+    /** The call answers BAD behind a run of at most 380 calls, and leaves every byte and every answer as it was. */
+    static void refuses(String what, Run before, Call call) {
+        FieldRows x = new FieldRows();
+        before.on(x);
+        is(what, call.on(x), FieldRows.BAD);
+        changesNothing(what, before, y -> call.on(y));
+        FieldRows untouched = new FieldRows();
+        before.on(untouched);
+        long[] got = answers(x);
+        long[] want = answers(untouched);
+        for (int k = 0; k < want.length; k++) {
+            is(what + ": answer " + k + " behind it", got[k], want[k]);
+        }
+    }
+
+    private static long[] answers(FieldRows x) {
+        return new long[] {
+            x.fault(0), x.fault(1), x.differs(), x.groups(), x.where(0, 3), x.where(1, 7), x.where(2, 1), x.where(3, 5),
+            x.record(1, false), x.record(17, true), x.record(129, false), x.record(512, true),
+        };
     }
 
     static void fill(FieldRows x, int row, int v) {
