@@ -8,7 +8,7 @@ import java.util.List;
 import java.util.Set;
 import java.util.TreeSet;
 
-/** The rules of ../shared/LANGUAGE.md that reflection can see: 1, 2, 3, 5 and 11. */
+/** The rules of ../shared/LANGUAGE.md that reflection can see: parts of 1, 2, 3, 5, 6 and 11. */
 public final class LanguageTest {
     private static final Set<Class<?>> STATIC_TYPES = Set.of(int.class, long.class, boolean.class, char.class,
         String.class, int[].class, long[].class, char[].class, byte[].class);
